@@ -81,7 +81,7 @@ public final class PromisesTest {
 
     // ---- rooms to start from
 
-    /** A room with an envelope for each set of words, with one letter. */
+    /** A room with an envelope for each set of words, with one letter in it. */
     private static PaperlessRegistry room(int... words) {
         PaperlessRegistry x = new PaperlessRegistry();
         for (int w : words) {
@@ -410,6 +410,9 @@ public final class PromisesTest {
         x.answer(2);
         due(2, () -> x.ofClass(1, 2));
         due(1, () -> x.ofClass(1, 3));
+        due(1, () -> x.many(6));
+        x.answer(0);
+        due(0, () -> x.ofClass(1, 3));
         thrown(BOUNDS, () -> x.ofClass(4, 7));
         thrown(BOUNDS, () -> x.ofClass(-1, 0));
         thrown(ARGUMENT, () -> x.ofClass(0, 7));
@@ -497,6 +500,19 @@ public final class PromisesTest {
         x.scan(x.envelope(), 0, 3);
         due(NONE, () -> x.ofFile(1, 3));
         due(1, () -> x.ofFile(1, 4));
+        PaperlessRegistry empty = new PaperlessRegistry();
+        thrown(BOUNDS, () -> empty.ofFile(0, 0));
+        PaperlessRegistry full = fullRoom();
+        thrown(BOUNDS, () -> full.ofFile(30, 0));
+        // The first letter counts as any other one, alone in its file or not.
+        PaperlessRegistry first = room(1, 2);
+        due(1, () -> first.ofFile(0, 1));
+        first.teach(0, 0);
+        due(14, () -> first.ofFile(0, 2));
+        first.join(0, 1);
+        due(2, () -> first.ofFile(0, 1));
+        due(14, () -> first.ofFile(0, 2));
+        due(2, () -> first.ofFile(0, 4));
         thrown(BOUNDS, () -> x.ofFile(2, 0));
         thrown(BOUNDS, () -> x.ofFile(2, 5));
         thrown(BOUNDS, () -> x.ofFile(5, 0));
@@ -640,6 +656,12 @@ public final class PromisesTest {
             int w = what;
             due(want[w], () -> x.many(w));
         }
+        PaperlessRegistry one = room(1);
+        one.teach(0, 0);
+        due(0, () -> one.many(8));
+        one.answer(0);
+        due(1, () -> one.many(8));
+        due(1, () -> one.many(7));
         thrown(ARGUMENT, () -> x.many(13));
         thrown(ARGUMENT, () -> x.many(-1));
     }
@@ -658,6 +680,12 @@ public final class PromisesTest {
         dueD(2.0 / 3.0, x::rightPart);
         x.teach(1, 2);
         dueD(2.0 / 3.0, x::rightPart);
+        x.teach(1, 0);
+        dueD(2.0 / 4.0, x::rightPart);
+        x.teach(1, 0);
+        dueD(3.0 / 5.0, x::rightPart);
+        x.teach(1, 3);
+        dueD(3.0 / 6.0, x::rightPart);
     }
 
     private static void classFor() {
@@ -694,6 +722,10 @@ public final class PromisesTest {
         due(2, () -> x.weight(0, 0));
         x.answer(0);
         due(2, () -> x.changedBy(0, 0));
+        // The first letter is one of the others, too.
+        PaperlessRegistry first = room(1, 1);
+        first.teach(1, 2);
+        due(1, () -> first.changedBy(1, 2));
         thrown(BOUNDS, () -> x.changedBy(3, 0));
         thrown(BOUNDS, () -> x.changedBy(-1, 0));
         thrown(BOUNDS, () -> x.changedBy(0, 4));
@@ -779,6 +811,36 @@ public final class PromisesTest {
         days(x, 4);
         compare("" + told(x), "" + x.digest());
         compare("" + told(new PaperlessRegistry()), "" + new PaperlessRegistry().digest());
+        // 10 days to be missed, and 20 to be destroyed: one more or less tells another number.
+        for (int edge = 9; edge <= 10; edge++) {
+            PaperlessRegistry y = room(1, 2);
+            y.terms(0, edge, edge + 10);
+            y.teach(0, 0);
+            y.teach(1, 0);
+            y.answer(0);
+            compare("" + told(y), "" + y.digest());
+            due(10 - edge, () -> y.missedIn(10));
+            due(1, () -> y.destroyedIn(20));
+            y.terms(0, edge, edge + 11);
+            compare("" + told(y), "" + y.digest());
+            due(10 - edge, () -> y.destroyedIn(20));
+        }
+        PaperlessRegistry full = fullRoom();
+        compare("" + told(full), "" + full.digest());
+    }
+
+    /** A room with all 16 envelopes, all 30 letters, and some of everything. */
+    private static PaperlessRegistry fullRoom() {
+        PaperlessRegistry x = room(1, 2, 4, 8, 16, 32, 64, 128, 256, 512, 1024, 2048, 1, 2, 4, 8);
+        for (int n = 16; n < 30; n++) {
+            x.scan(n - 16, 1 << (n % 5), n % 3 == 0 ? n - 1 : NONE);
+        }
+        x.terms(0, 2, 1);
+        lessons(x, 0, 0, 3);
+        lessons(x, 1, 1, 3);
+        days(x, 3);
+        x.answer(12);
+        return x;
     }
 
     /** The checksum, from the answers of the calls that the document names. */
